@@ -234,7 +234,15 @@ public final class PromisesTest {
     Checks.due("one more", UOE, overlay(w, 1));
     noResult("behind too large a result", w);
     Checks.due("without it", 512, overlay(w, 2));
-    Checks.due("it alone", "1 | 6 1 3 1 4 | 0,10 1,10 0,11 0,10 | 1", Checks.overlaid(w, 4));
+    w.clear();
+    for (int i = 0; i < 511; i++) {
+      Checks.line(w, 1, 3 * i, 0, 3 * i + 1, 0, 3 * i, 1);
+    }
+    Checks.line(w, 2, 0, 10, 1, 10, 1, 11, 0, 11);
+    Checks.due("2049 corners", UOE, overlay(w, 3));
+    noResult("behind 2049 corners", w);
+    Checks.due("2044 corners", 511, overlay(w, 2));
+    Checks.due("the 5 alone", "1 | 6 1 3 1 5 | 0,10 1,10 1,11 0,11 0,10 | 2", Checks.overlaid(w, 4));
   }
 
   /** Ends at the height from which the line goes to the right: they must not count twice or not at all. */
