@@ -10,9 +10,9 @@ import java.util.Set;
 import java.util.TreeSet;
 
 /**
- * Drawings made of the triangles of a net: squares with both diagonals. Which triangles a result has,
- * which of them hang together and what bounds them is known without any geometry, and everything that
- * is told is held against it.
+ * Drawings made of the triangles of a net: squares with both diagonals, or triangles between places
+ * that lie anyhow. Which triangles a result has, which of them hang together and what bounds them is
+ * known without any geometry, and everything that is told is held against it.
  */
 public final class CellsTest {
   private static int wide;
@@ -24,16 +24,20 @@ public final class CellsTest {
   private static String where;
 
   public static void main(String[] args) {
-    for (int seed = 1; seed <= 1500; seed++) {
+    for (int seed = 1; seed <= 3000; seed++) {
       oneDrawing(new Random(seed), seed);
     }
     Checks.end("CellsTest");
   }
 
   private static void oneDrawing(Random random, int seed) {
-    wide = 1 + random.nextInt(seed % 50 == 0 ? 12 : 6);
-    high = 1 + random.nextInt(seed % 50 == 0 ? 12 : 6);
-    layNet(random);
+    wide = 1 + random.nextInt(seed % 100 == 0 ? 12 : 6);
+    high = 1 + random.nextInt(seed % 100 == 0 ? 12 : 6);
+    if (seed % 2 == 0) {
+      layNet(random);
+    } else {
+      layIrregularNet(random);
+    }
     RingWeaver w = new RingWeaver();
     int rounds = 1 + random.nextInt(2);
     for (int round = 0; round < rounds; round++) {
@@ -98,6 +102,86 @@ public final class CellsTest {
         }
       }
     }
+  }
+
+  /** Places anywhere, and as many pieces between them as do not cross: what they leave are triangles. */
+  private static void layIrregularNet(Random random) {
+    do {
+      scatterPlaces(random);
+      boolean[][] joined = joinPlaces(random);
+      cellsAtEdge = new HashMap<>();
+      List<int[]> found = new ArrayList<>();
+      for (int p = 0; p < px.length; p++) {
+        for (int q = p + 1; q < px.length; q++) {
+          for (int r = q + 1; r < px.length; r++) {
+            if (joined[p][q] && joined[q][r] && joined[p][r] && isEmpty(p, q, r)) {
+              found.add(new int[] {p, q, r});
+            }
+          }
+        }
+      }
+      cells = new int[found.size()][];
+      for (int i = 0; i < cells.length; i++) {
+        addCell(i, found.get(i)[0], found.get(i)[1], found.get(i)[2]);
+      }
+    } while (cells.length == 0);
+  }
+
+  private static void scatterPlaces(Random random) {
+    int most = random.nextInt(4) == 0 ? 500000000 : 2 + random.nextInt(4);
+    Set<List<Integer>> places = new HashSet<>();
+    int many = 4 + random.nextInt(16);
+    for (int i = 0; i < many; i++) {
+      places.add(Arrays.asList(random.nextInt(2 * most + 1) - most, random.nextInt(2 * most + 1) - most));
+    }
+    px = new long[places.size()];
+    py = new long[places.size()];
+    int at = 0;
+    for (List<Integer> p : places) {
+      px[at] = p.get(0);
+      py[at++] = p.get(1);
+    }
+  }
+
+  private static boolean[][] joinPlaces(Random random) {
+    List<int[]> pairs = new ArrayList<>();
+    for (int p = 0; p < px.length; p++) {
+      for (int q = p + 1; q < px.length; q++) {
+        pairs.add(new int[] {p, q});
+      }
+    }
+    Collections.shuffle(pairs, random);
+    boolean[][] joined = new boolean[px.length][px.length];
+    List<int[]> taken = new ArrayList<>();
+    for (int[] pair : pairs) {
+      boolean free = placesAlong(px[pair[0]], py[pair[0]], px[pair[1]], py[pair[1]]).size() == 2;
+      for (int[] other : taken) {
+        free = free && !cross(pair, other);
+      }
+      if (free) {
+        taken.add(pair);
+        joined[pair[0]][pair[1]] = true;
+      }
+    }
+    return joined;
+  }
+
+  private static int side(int p, int q, int r) {
+    return Long.signum((px[q] - px[p]) * (py[r] - py[p]) - (py[q] - py[p]) * (px[r] - px[p]));
+  }
+
+  private static boolean cross(int[] a, int[] b) {
+    return side(a[0], a[1], b[0]) * side(a[0], a[1], b[1]) < 0 && side(b[0], b[1], a[0]) * side(b[0], b[1], a[1]) < 0;
+  }
+
+  private static boolean isEmpty(int p, int q, int r) {
+    int turn = side(p, q, r);
+    for (int i = 0; i < px.length; i++) {
+      if (i != p && i != q && i != r && side(p, q, i) == turn && side(q, r, i) == turn && side(r, p, i) == turn) {
+        return false;
+      }
+    }
+    return turn != 0;
   }
 
   private static void place(int i, long x, long y, long a, long b, long c, long d) {

@@ -2,6 +2,12 @@ import java.util.concurrent.Callable;
 
 /** What the tests share: calls with the answers that are due, and drawings told briefly. */
 final class Checks {
+  static final String IAE = "IllegalArgumentException";
+  static final String ISE = "IllegalStateException";
+  static final String UOE = "UnsupportedOperationException";
+  static final String IOOBE = "IndexOutOfBoundsException";
+  static final int FAR = 500000000;
+
   private static int wrong = 0;
   private static int asked = 0;
 
@@ -25,6 +31,33 @@ final class Checks {
     } catch (Exception e) {
       return e.getClass().getSimpleName();
     }
+  }
+
+  static Object piece(RingWeaver w, int x, int y, int toX, int toY, int marks) {
+    return answer(() -> w.piece(x, y, toX, toY, marks));
+  }
+
+  static Object overlay(RingWeaver w, int what) {
+    return answer(() -> w.overlay(what));
+  }
+
+  static Object plan(RingWeaver w, int i) {
+    return answer(() -> w.plan(i));
+  }
+
+  static Object ordinate(RingWeaver w, int i, int what) {
+    return answer(() -> w.ordinate(i, what));
+  }
+
+  /** Without a result there is nothing to be told, which an empty result (6, 0) does not do. */
+  static void noResult(String when, RingWeaver w) {
+    due(when + ": plan numbers", 0, w.count(1));
+    due(when + ": corners", 0, w.count(2));
+    due(when + ": polygons", 0, w.count(3));
+    due(when + ": area", 0L, w.area());
+    due(when + ": plan(0)", IOOBE, plan(w, 0));
+    due(when + ": ordinate(0, 0)", IOOBE, ordinate(w, 0, 0));
+    due(when + ": ordinate(0, 1)", IOOBE, ordinate(w, 0, 1));
   }
 
   static void end(String test) {
