@@ -10,6 +10,8 @@ public final class RingWeaver {
     private static final int MOST = 2048;
     private static final int FARTHEST = 500000000;
     private static final int FIRST_ROOM = 16;
+    /** The longest row has the places, at most two of each piece. */
+    private static final int MOST_ROOM = 2 * MOST;
 
     private static final int FIRST_MARK = 1;
     private static final int SECOND_MARK = 2;
@@ -141,11 +143,13 @@ public final class RingWeaver {
         }
 
         void add(int number) {
-            if (size >= held.length) {
+            if (size >= held.length && size < MOST_ROOM) {
                 held = Arrays.copyOf(held, 2 * size);
             }
-            held[size] = number;
-            size++;
+            if (size < held.length) {
+                held[size] = number;
+                size++;
+            }
         }
 
         int get(int i) {
