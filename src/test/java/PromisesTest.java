@@ -1,14 +1,25 @@
-/** Ordinary use of the class; the edges that the document names are in EdgesTest. */
+/** Ordinary use of the class, promise by promise; the edges that the document names are in EdgesTest. */
 public final class PromisesTest {
   public static void main(String[] args) {
+    newObject();
     pieceCountsAndTurns();
     pieceRefusesWhatIsInTheWay();
+    clear();
     overlayWhats();
     insideAtHeights();
     rings();
     polygonsAndHoles();
+    plan();
+    ordinate();
     area();
+    count();
     Checks.end("PromisesTest");
+  }
+
+  private static void newObject() {
+    RingWeaver w = new RingWeaver();
+    Checks.due("a new one has no pieces", 0, w.count(0));
+    Checks.noResult("a new one", w);
   }
 
   private static void pieceCountsAndTurns() {
@@ -51,6 +62,18 @@ public final class PromisesTest {
       Checks.due("free " + i, i + 2, Checks.piece(w, free[i][0], free[i][1], free[i][2], free[i][3], 2));
     }
     Checks.due("the piece itself is not in its own way", 9, Checks.piece(w, 8, 5, 2, 2, 3));
+  }
+
+  private static void clear() {
+    RingWeaver w = Checks.line(new RingWeaver(), 1, 0, 0, 4, 0, 0, 4);
+    w.piece(9, 9, 9, 8, 2);
+    Checks.due("clear of four", 4, w.clear());
+    Checks.due("cleared", 0, w.count(0));
+    Checks.line(w, 2, 1, 0, 1, 1, 0, 1);
+    w.overlay(4);
+    Checks.due("clear of three, with a result", 3, w.clear());
+    Checks.noResult("cleared, with a result", w);
+    Checks.due("nothing of them is left", "0 | 6 0 | | 0", Checks.overlaid(w, 1));
   }
 
   private static void overlayWhats() {
@@ -122,6 +145,33 @@ public final class PromisesTest {
         + " 2,2 8,3 8,8 3,8 2,2 4,4 7,7 7,4 4,4 | 211", Checks.overlaid(island, 1));
   }
 
+  private static RingWeaver frameAndTriangle() {
+    RingWeaver w = Checks.line(new RingWeaver(), 1, 0, 0, 6, 0, 6, 6, 0, 6);
+    Checks.line(w, 2, 1, 1, 5, 1, 5, 5, 1, 5);
+    return Checks.line(w, 1, 8, -1, 9, -1, 8, 2);
+  }
+
+  private static void plan() {
+    RingWeaver w = frameAndTriangle();
+    w.overlay(2);
+    int[] due = {6, 2, 3, 2, 5, 5, 3, 1, 4};
+    for (int i = 0; i < due.length; i++) {
+      Checks.due("plan " + i, due[i], Checks.plan(w, i));
+    }
+    Checks.due("plan 9", Checks.IOOBE, Checks.plan(w, 9));
+  }
+
+  private static void ordinate() {
+    RingWeaver w = frameAndTriangle();
+    w.overlay(2);
+    int[] due = {0, 0, 6, 0, 6, 6, 0, 6, 0, 0, 1, 1, 1, 5, 5, 5, 5, 1, 1, 1, 8, -1, 9, -1, 8, 2, 8, -1};
+    for (int i = 0; i < due.length; i++) {
+      Checks.due("ordinate " + i / 2 + ", " + i % 2, due[i], Checks.ordinate(w, i / 2, i % 2));
+    }
+    Checks.due("ordinate 14, 0", Checks.IOOBE, Checks.ordinate(w, 14, 0));
+    Checks.due("ordinate 0, 2", Checks.IOOBE, Checks.ordinate(w, 0, 2));
+  }
+
   private static void area() {
     RingWeaver w = Checks.line(new RingWeaver(), 1, -7, 3, 2, -6, 11, 8);
     Checks.due("no result yet", 0L, w.area());
@@ -133,5 +183,14 @@ public final class PromisesTest {
     w.overlay(2);
     Checks.due("less a hole", 206L, w.area());
     Checks.due("asked again", 206L, w.area());
+  }
+
+  private static void count() {
+    RingWeaver w = frameAndTriangle();
+    w.overlay(2);
+    int[] due = {11, 9, 14, 2, RingWeaver.NONE};
+    for (int what = 0; what < due.length; what++) {
+      Checks.due("count " + what, due[what], w.count(what));
+    }
   }
 }
